@@ -1115,12 +1115,16 @@ public final class ChimneyGang {
             }
         }
 
+        /** Only a row that is better is kept, so of like ones the first stays. */
         private void keepShares(int gangs) {
-            leastLoad = 0;
+            int greatest = 0;
             for (int gang = 0; gang < gangs; gang++) {
-                leastLoad = Math.max(leastLoad, loads[gang]);
+                greatest = Math.max(greatest, loads[gang]);
             }
-            System.arraycopy(tried, 0, gangOf, 0, many);
+            if (greatest < leastLoad) {
+                leastLoad = greatest;
+                System.arraycopy(tried, 0, gangOf, 0, many);
+            }
         }
 
         int chanceToGo(Yard yard, int[] chances) {
