@@ -484,7 +484,8 @@ public final class ChimneyGang {
         return NONE;
     }
 
-    public int bands(int chimney, int year, int wind, int pull) throws NoSuchElementException, IllegalArgumentException {
+    public int bands(int chimney, int year, int wind, int pull)
+            throws NoSuchElementException, IllegalArgumentException {
         askChimney(chimney);
         askYearAndWind(year, wind);
         if (!between(1, pull, MOST_NUMBER)) {
@@ -1099,7 +1100,7 @@ public final class ChimneyGang {
             return leastLoad;
         }
 
-        /** Gangs are alike, so the first row of a kind takes them up by their numbers: no gang ahead of a lesser one. */
+        /** Gangs are alike, so the first of like rows begins no gang ahead of a lesser one. */
         private static void lay(Plan plan, int i, int gangs, int used) {
             if (i >= plan.many || i >= MOST_LETTERS) {
                 plan.keepShares(gangs);
