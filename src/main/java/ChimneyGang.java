@@ -884,25 +884,22 @@ public final class ChimneyGang {
             }
             kind = start < length ? kindOf(text[start]) : END;
             end = kind == END ? start : start + 1;
-            if (kind == WORD) {
-                endWord();
-            } else if (kind == NUMBER) {
-                endNumber();
-            }
-        }
-
-        private void endWord() {
-            while (end < length && kindOf(text[end]) == WORD) {
+            boolean inRow = kind == WORD || kind == NUMBER;
+            while (inRow && end < length && kindOf(text[end]) == kind) {
                 end++;
             }
+            value = kind == NUMBER ? readValue() : 0;
         }
 
-        private void endNumber() {
-            value = text[start] - '0';
-            while (end < length && kindOf(text[end]) == NUMBER) {
-                value = end - start < MOST_DIGITS ? value * 10 + text[end] - '0' : MOST_NUMBER + 1;
-                end++;
+        private int readValue() {
+            if (end - start > MOST_DIGITS) {
+                return MOST_NUMBER + 1;
             }
+            int number = 0;
+            for (int i = start; i < end; i++) {
+                number = number * 10 + text[i] - '0';
+            }
+            return number;
         }
 
         private static int kindOf(int sign) {
@@ -1272,7 +1269,7 @@ public final class ChimneyGang {
         private static final int MOST_CASES = 1 << MOST_PARTS;
 
         private final int[] cases = new int[MOST_CASES];
-        /** Scratch of rods: how many cases that fit end in such bits, from some part on; up to some part. */
+        /** Scratch of rods: how many cases that fit have such bits from a part on; and from there up to another. */
         private final int[] from = new int[MOST_CASES];
         private final int[] upTo = new int[MOST_CASES];
         private final int[] byBad = new int[MOST_PARTS + 1];

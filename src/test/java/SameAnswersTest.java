@@ -312,6 +312,9 @@ public final class SameAnswersTest {
     }
 
     private void both(String name, int... args) throws Exception {
+        if (args.length > 0 && !name.equals("feed") && !name.equals("yard") && chance(2)) {
+            args[below(args.length)] = odd();
+        }
         String one = answer(real, name, args);
         String other = answer(naive, name, args);
         StringBuilder call = new StringBuilder(name).append('(');
