@@ -176,7 +176,7 @@ public final class ClimbTest {
         Check.missing("up(0, -1)", () -> gang.up(0, -1));
     }
 
-    /** Promise 31: a master may be taken back from beside his apprentice, as nothing else is asked. */
+    /** Promise 31: the latest first, whatever the rule says by then. */
     private static void back() {
         ChimneyGang gang = yard();
         Check.due("nothing to take back", gang.back(), -1);

@@ -84,6 +84,16 @@ public final class YardTest {
         fault("\nchimney\n5\n;\n", 0, -1);
         fault("chimneys 5;", 1, 0);
         fault("chimne 5;", 1, 0);
+        fault("xhimney 5;", 1, 0);
+        fault("chimnez 5;", 1, 0);
+        fault("chimneyz 5;", 1, 0);
+        fault("chimney 5;azby 5;", 1, 10);
+        fault("{chimney 5;", 1, 0);
+        fault("`chimney 5;", 1, 0);
+        fault("chimney /5;", 1, 8);
+        fault("chimney :5;", 1, 8);
+        fault("chimney 5:", 1, 9);
+        fault("chimney\r5;", 1, 7);
         fault(" Chimney 5;", 1, 1);
         fault("chimney\t5;", 1, 7);
         fault("chimney;", 1, 7);
