@@ -1,5 +1,3 @@
-import java.lang.reflect.InvocationTargetException;
-import java.lang.reflect.Method;
 import java.util.ArrayList;
 import java.util.List;
 
@@ -63,7 +61,7 @@ public final class SameAnswersTest {
         return least + below(most - least + 1);
     }
 
-    public static void main(String[] args) throws Exception {
+    public static void main(String[] args) {
         int first = args.length > 1 ? Integer.parseInt(args[0]) : 0;
         int many = args.length > 1 ? Integer.parseInt(args[1]) : 400;
         int wrong = 0;
@@ -85,7 +83,7 @@ public final class SameAnswersTest {
         }
     }
 
-    private void run(int run) throws Exception {
+    private void run(int run) {
         String[] theme = THEMES[run % THEMES.length].split(" ");
         if (!chance(5)) {
             tellYard();
@@ -109,7 +107,7 @@ public final class SameAnswersTest {
         }
     }
 
-    private void tellYard() throws Exception {
+    private void tellYard() {
         String text = text();
         for (int at = 0; at < text.length() && same; at += 20) {
             int[] a = new int[5];
@@ -198,7 +196,7 @@ public final class SameAnswersTest {
         }
     }
 
-    private void ask(String name) throws Exception {
+    private void ask(String name) {
         int chimneys = Math.max(1, real.count(0));
         int c = chance(97) ? below(chance(50) ? Math.min(3, chimneys) : chimneys) : from(-1, 12);
         int letter = chance(90) ? below(Math.max(1, real.count(1))) : from(-1, 8);
@@ -270,7 +268,7 @@ public final class SameAnswersTest {
         }
     }
 
-    private void askRod() throws Exception {
+    private void askRod() {
         good = from(0, 9);
         bad = good + from(1, 9);
         wall = false;
@@ -282,7 +280,7 @@ public final class SameAnswersTest {
         both("rod", n, good, bad);
     }
 
-    private void askTell() throws Exception {
+    private void askTell() {
         int i = chance(95) ? below(parts) : from(-1, 15);
         int j = chance(95) ? Math.min(parts, i + from(1, parts)) : from(-1, 15);
         if (chance(3) || i < 0) {
@@ -295,7 +293,7 @@ public final class SameAnswersTest {
     }
 
     /** Readings of a chimney lie about a line, so that lines go through most of them. */
-    private void askPlumb(int chimney) throws Exception {
+    private void askPlumb(int chimney) {
         int year = chance(60) ? from(0, 30) : from(-1, 301);
         int lean = (chimney * 7 - 11) * year / 3 + from(-9, 9);
         both("plumb", chimney, year, chance(95) ? lean : chance(80) ? from(-3000, 3000) : odd());
@@ -311,32 +309,17 @@ public final class SameAnswersTest {
         return odd[below(odd.length)];
     }
 
-    private void both(String name, int... args) throws Exception {
+    private void both(String name, int... args) {
         if (args.length > 0 && !name.equals("feed") && !name.equals("yard") && chance(2)) {
             args[below(args.length)] = odd();
         }
-        String one = answer(real, name, args);
-        String other = answer(naive, name, args);
+        String one = Check.answer(real, name, args);
+        String other = Check.answer(naive, name, args);
         StringBuilder call = new StringBuilder(name).append('(');
         for (int i = 0; i < args.length; i++) {
             call.append(i > 0 ? ", " : "").append(args[i]);
         }
         said.add(call + ") = " + one + (one.equals(other) ? "" : ", but by trying out " + other));
         same = same && one.equals(other);
-    }
-
-    private static String answer(Object gang, String name, int[] args) throws Exception {
-        Class<?>[] types = new Class<?>[args.length];
-        Object[] values = new Object[args.length];
-        for (int i = 0; i < args.length; i++) {
-            types[i] = int.class;
-            values[i] = args[i];
-        }
-        Method method = gang.getClass().getMethod(name, types);
-        try {
-            return String.valueOf(method.invoke(gang, values));
-        } catch (InvocationTargetException e) {
-            return "throws." + e.getCause().getClass().getSimpleName();
-        }
     }
 }
