@@ -188,7 +188,7 @@ public final class ChimneyGang {
     }
 
     public int gang(int i) throws NoSuchElementException {
-        if (!kept.made || !kept.shared || i < 0 || i >= kept.many) {
+        if (!kept.shared || i < 0 || i >= kept.many) {
             throw new NoSuchElementException("no such letter on a gang");
         }
         return kept.gangOf[i];
@@ -605,8 +605,7 @@ public final class ChimneyGang {
         int nests = 0;
 
         Yard() {
-            Arrays.fill(moves, 1);
-            Arrays.fill(winds, WIND_UNTOLD);
+            clear();
         }
 
         void clear() {
@@ -1090,14 +1089,13 @@ public final class ChimneyGang {
                 int chimney = yard.fact(row[i], Yard.CHIMNEY);
                 weights[i] = yard.fact(row[i], Yard.DAYS) * yard.courses[chimney];
             }
-            Arrays.fill(loads, 0);
             leastLoad = VAST;
             lay(this, 0, gangs, 0);
             shared = true;
             return leastLoad;
         }
 
-        /** Gangs are alike, so the first of like rows begins no gang ahead of a lesser one. */
+        /** Gangs are alike, so the first of like rows begins no gang ahead of a lesser one. Loads end as they began. */
         private static void lay(Plan plan, int i, int gangs, int used) {
             if (i >= plan.many || i >= MOST_LETTERS) {
                 plan.keepShares(gangs);
@@ -1796,7 +1794,7 @@ public final class ChimneyGang {
         private final int[] open = new int[SETS];
 
         Order() {
-            Arrays.fill(works, 1);
+            clear();
         }
 
         void clear() {

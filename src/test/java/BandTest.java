@@ -54,6 +54,19 @@ public final class BandTest {
         }
         Check.due("its 9th", gang.band(1, 0, 0, 1, 0), -1);
         Check.due("of its own", gang.weak(0, 0, 13, 2), 13 * 199 - 72);
+        ChimneyGang twelve = Check.told(Check.times("chimney 9;", 12));
+        for (int chimney = 11; chimney >= 0; chimney--) {
+            for (int many = 1; many <= 8; many++) {
+                Check.due("band " + many + " of " + chimney, twelve.band(chimney, 0, many, 1 + chimney, 1), many);
+            }
+        }
+        for (int chimney = 0; chimney < 12; chimney++) {
+            int holds = 0;
+            for (int many = 1; many <= 8; many++) {
+                holds += Math.max(0, 1 + chimney - (8 - many));
+            }
+            Check.due("wanting of " + chimney, twelve.weak(chimney, 8, 13, 2), Math.max(13 * 2, 13 * 8 - holds));
+        }
     }
 
     private static void bandsAsTold() {
@@ -142,6 +155,8 @@ public final class BandTest {
         weakIs(two, 0, 1, 1, 0, 1);
         ChimneyGang high = of(200);
         weakIs(high, 0, 13, 199, 0, 13 * 199);
+        weakIs(high, 0, 0, 0, -1, 0);
+        Check.due("200 courses without wind", high.lasts(0, 0, 0), -1);
     }
 
     private static void weakOnes() {

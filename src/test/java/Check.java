@@ -12,6 +12,8 @@ final class Check {
         boolean answer();
     }
 
+    private static final int MOST_TOLD = 20;
+
     private static int wrong = 0;
     private static int asked = 0;
     private static int askedBefore = 0;
@@ -38,7 +40,9 @@ final class Check {
 
     private static void tellWrong(String what) {
         wrong++;
-        System.out.println(sentence + "\n    " + what);
+        if (wrong <= MOST_TOLD) {
+            System.out.println(sentence + "\n    " + what);
+        }
     }
 
     static void due(String call, long got, long want) {
@@ -135,6 +139,16 @@ final class Check {
             number = number << 8 | (i < text.length() ? text.charAt(i) & 255 : ' ');
         }
         return number;
+    }
+
+    /** Tells a yard to the document's naive second writing. */
+    static NaiveGang naive(String text) {
+        NaiveGang gang = new NaiveGang();
+        for (int at = 0; at < text.length(); at += 20) {
+            gang.feed(four(text, at), four(text, at + 4), four(text, at + 8), four(text, at + 12), four(text, at + 16));
+        }
+        gang.yard(text.length());
+        return gang;
     }
 
     static int yard(ChimneyGang gang, String text) {

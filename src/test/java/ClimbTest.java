@@ -359,6 +359,32 @@ public final class ClimbTest {
         Check.due("no more", gang.back(), -1);
         Check.due("all life is back", gang.life(0), 200);
         Check.due("a new rope takes its number", gang.rope(5), 2);
+        ChimneyGang ends = Check.told(Check.times("chimney 1;", 12) + "winds" + Check.times(" 0", 30) + ";");
+        ends.rope(99);
+        for (int rope = 1; rope < 20; rope++) {
+            ends.rope(rope);
+        }
+        for (int chimney = 0; chimney < 5; chimney++) {
+            ends.climb(chimney, 2 * chimney, chimney, 29);
+        }
+        ends.climb(0, 11, 19, 5);
+        ends.image();
+        ends.back();
+        ends.back();
+        ends.climb(1, 10, 18, 6);
+        ends.climb(3, 7, 3, 28);
+        Check.due("restored", ends.restore(), true);
+        for (int chimney = 0; chimney < 5; chimney++) {
+            Check.due("up the last day", ends.up(2 * chimney, 29), 1 << chimney);
+        }
+        Check.due("up the last one", ends.up(11, 5), 1);
+        Check.due("not up", ends.up(10, 6) | ends.up(7, 28), 0);
+        Check.due("life(19)", ends.life(19), 18);
+        Check.due("the latest of the image", ends.back(), 0);
+        Check.due("its rope", ends.life(19), 19);
+        Check.due("its place", ends.up(11, 5), 0);
+        Check.due("the one ahead", ends.back(), 4);
+        Check.due("its place", ends.up(8, 29), 0);
         ChimneyGang full = climbed(60);
         full.image();
         for (int i = 0; i < 50; i++) {

@@ -144,6 +144,11 @@ public final class FellTest {
         Check.due("and inside of it", gang.stands(0x1111, 50, 49), true);
         Check.due("and outside of it", gang.stands(0x1111, 50, 51), false);
         Check.due("on three of one half", gang.stands(7, 0, 0), false);
+        Check.due("by 1 from 0 to 2", gang.stands(ALL - 2, 91, 22), true);
+        Check.due("by 1 from 0 to 6", gang.stands(ALL - 62, 47, 22), true);
+        Check.due("by 1 from 2 to 4", gang.stands(ALL - 8, 22, 91), true);
+        Check.due("by -2 from 0 to 1", gang.stands(ALL, 95, 24), false);
+        Check.due("by 36 from 0 to 1", gang.stands(ALL, 94, 24), true);
     }
 
     private static void brickByBrick() {
@@ -174,6 +179,9 @@ public final class FellTest {
         Check.due("from 15 to 2, just behind the line", gang.cut(0, 2, 72, 66), 0);
         Check.due("from 15 to 2, just ahead of it", gang.cut(0, 2, 72, 65), -2);
         Check.due("from 15 to 2, ahead of it", gang.cut(0, 2, 91, -35), -2);
+        Check.due("from 0 to 6: inside by 1", gang.cut(1, 5, 47, 22), -2);
+        Check.due("from 0 to 6: behind it", gang.cut(1, 5, 47, 23), 3);
+        Check.due("from 1 to 14, over twelve: inside by 1", gang.cut(2, 12, 87, 12), -2);
         Check.due("from 11 to 5: behind the line", gang.cut(12, 9, -37, 0), 0);
         Check.due("from 11 to 5: on the line", gang.cut(12, 9, -38, 0), 0);
         Check.due("from 11 to 5: ahead of it", gang.cut(12, 9, -39, 0), -2);
@@ -310,6 +318,7 @@ public final class FellTest {
         Check.says(22, "NONE: there is none.");
         ChimneyGang gang = new ChimneyGang();
         Check.due("it never stood", gang.fell(0, 15, 95, 95), -1);
+        Check.due("it never stood, for one edge alone", gang.fell(0, 15, 95, 24), -1);
         Check.due("never so far", gang.fell(8, 8, 95, 0), -1);
         Check.due("never so near", gang.fell(0, 0, 92, 0), -1);
         Check.due("never so near", gang.fell(15, 1, 92, 0), -1);

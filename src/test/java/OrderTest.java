@@ -144,6 +144,9 @@ public final class OrderTest {
         Check.due("200 of them", gang.out(200, 3), 3);
         Check.due("three of 99", gang.out(3, 99), 2);
         Check.due("four of 99", gang.out(4, 99), 3);
+        ChimneyGang most = Check.told("chimney 3;chimney 200;chimney 4;");
+        Check.due("199 of 3 courses", most.out(199, 3), 3);
+        Check.due("200 of 3 courses: a course more", most.out(200, 3), 6);
     }
 
     private static void tied() {
@@ -184,6 +187,9 @@ public final class OrderTest {
         Check.due("five: 31 of two", high.out(5, 10), 3);
         Check.due("six: 40 of the two others", high.out(6, 10), 6);
         Check.due("eight: all", high.out(8, 10), 7);
+        Check.due("another yard", Check.yard(high, "chimney 11;chimney 20;"), 0);
+        Check.due("without the third", high.out(5, 10), 3);
+        Check.due("three: the second one", high.out(3, 10), 2);
         ChimneyGang twelve = Check.told(Check.times("chimney 3;", 12));
         Check.due("twelve", twelve.out(12, 3), 4095);
         Check.due("eleven of them", twelve.out(11, 3), 2047);

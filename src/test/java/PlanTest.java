@@ -100,6 +100,18 @@ public final class PlanTest {
         String all = "chimney 1;chimney 1;road 0 1 moves 9;winds" + Check.times(" 0", 30) + ";";
         planIs(Check.told(all + letter(0, 2, 18, 19, 1) + letter(1, 1, 29, 29, 1)), 2, 29, 0, 18, 1, 29);
         planIs(Check.told(all + letter(0, 2, 19, 20, 1) + letter(1, 1, 29, 29, 1)), 1, 20, 0, 19);
+        // by no other road than that from the letter ahead
+        planIs(told(letter(0, 1, 1, 19, 1) + letter(1, 1, 0, 0, 1)), 2, 2, 1, 0, 0, 2);
+        planIs(Check.told("chimney 1;chimney 1;chimney 1;road 0 1 moves 2;road 1 2 moves 5;road 0 2 moves 0;" + CALM
+            + letter(0, 1, 0, 0, 1) + letter(1, 1, 3, 3, 1) + letter(2, 1, 4, 19, 1)), 3, 9, 0, 0, 1, 3, 2, 9);
+        // a day behind the last one is no day
+        planIs(Check.told("chimney 1;chimney 1;winds" + Check.times(" 0", 30) + ";" + letter(0, 1, 29, 29, 5)
+            + letter(1, 1, 29, 29, 4) + letter(0, 1, 0, 0, 1)), 6, 29, 2, 0, 0, 29);
+        // over another letter's chimney it is nearer, but that letter is done once
+        planIs(Check.told("chimney 1;chimney 1;chimney 1;road 0 2 moves 6;" + CALM + letter(2, 1, 1, 2, 1)
+            + letter(2, 1, 7, 11, 2) + letter(0, 1, 2, 5, 2) + letter(1, 1, 3, 9, 0)), 4, 7, 2, 2, 3, 4, 1, 7);
+        planIs(Check.told("chimney 1;chimney 1;chimney 1;road 0 1 moves 9;" + CALM + letter(1, 1, 8, 11, 2)
+            + letter(2, 2, 0, 7, 2) + letter(0, 1, 2, 8, 2)), 6, 8, 2, 2, 1, 4, 0, 8);
         ChimneyGang waits = Check.told("chimney 1;chimney 1;winds 0 9 9 9 9 0 9 0;" + letter(0, 1, 0, 0, 1)
             + letter(1, 1, 0, 29, 1) + letter(0, 1, 6, 29, 1));
         planIs(waits, 3, 7, 0, 0, 1, 5, 2, 7);
@@ -127,6 +139,11 @@ public final class PlanTest {
         planIs(told(letter(0, 1, 5, 5, 1) + letter(0, 1, 0, 9, 1) + letter(0, 1, 9, 9, 0)), 2, 5, 1, 0, 0, 5);
         planIs(told(letter(0, 1, 0, 9, 0)), 0, -1);
         planIs(told(letter(0, 1, 0, 0, 0) + letter(1, 1, 0, 9, 0)), 0, -1);
+        ChimneyGang again = told(letter(0, 1, 5, 9, 1));
+        planIs(again, 1, 5, 0, 5);
+        Check.yard(again, "chimney 1;" + CALM + letter(0, 1, 0, 9, 0));
+        planIs(again, 0, -1);
+        planIs(again, 0, -1);
         planIs(told(letter(0, 1, 0, 9, 1) + letter(0, 1, 0, 9, 0)), 1, 0, 0, 0);
         planIs(told(letter(0, 1, 5, 9, 0) + letter(0, 1, 0, 9, 1)), 1, 0, 1, 0);
         planIs(told(letter(0, 1, 0, 9, 1) + letter(1, 1, 2, 9, 1) + letter(0, 1, 4, 9, 1)), 3, 4, 0, 0, 1, 2, 2, 4);
@@ -244,6 +261,10 @@ public final class PlanTest {
         evenIs(gang, 2, 120, 0, 0, 0, 1, 1, 1);
         evenIs(gang, 3, 80, 0, 0, 1, 1, 2, 2);
         evenIs(gang, 4, 80, 0, 0, 1, 1, 2, 2);
+        ChimneyGang eight = planned(1, 1, 1, 1, 1, 1, 1, 1);
+        evenIs(eight, 2, 40, 0, 0, 0, 0, 1, 1, 1, 1);
+        evenIs(eight, 3, 30, 0, 0, 0, 1, 1, 1, 2, 2);
+        evenIs(eight, 4, 20, 0, 0, 1, 1, 2, 2, 3, 3);
         ChimneyGang left = told(letter(0, 1, 0, 0, 1) + letter(1, 9, 0, 8, 0) + letter(0, 1, 1, 1, 1));
         planIs(left, 2, 1, 0, 0, 2, 1);
         evenIs(left, 2, 10, 0, 1);

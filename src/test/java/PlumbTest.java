@@ -13,6 +13,7 @@ public final class PlumbTest {
         readingsAsTold();
         doubtsAsTold();
         lines();
+        linesTriedOut();
         leastAndGreatest();
         cutDownAndUp();
         thereIsNone();
@@ -138,6 +139,27 @@ public final class PlumbTest {
         noLean(ends);
     }
 
+    /** Four readings by each other, against all lines over two of their ends. */
+    private static void linesTriedOut() {
+        Check.says(0, "LEAN of a year: between the least and the greatest that LINES that go through have there,");
+        int[] years = {1, 2, 4, 8};
+        for (int row = 0; row < 7 * 7 * 7; row++) {
+            ChimneyGang gang = Check.told("chimney 9;chimney 9;");
+            NaiveGang naive = Check.naive("chimney 9;chimney 9;");
+            for (int doubt = 0; doubt < 2; doubt++) {
+                Check.alike(gang, naive, "doubt " + doubt + " " + (doubt + 1));
+                Check.alike(gang, naive, "plumb " + doubt + " 1 " + (row % 7 - 3));
+                Check.alike(gang, naive, "plumb " + doubt + " 4 " + (row / 7 % 7 - 3));
+                Check.alike(gang, naive, "plumb " + doubt + " 2 0");
+                Check.alike(gang, naive, "plumb " + doubt + " 8 " + (row / 49 - 3));
+                for (int year : new int[] {0, years[0], years[1], 3, years[2], 7, years[3], 11}) {
+                    Check.alike(gang, naive, "lean " + doubt + " " + year + " 0", "lean " + doubt + " " + year + " 1");
+                }
+                Check.alike(gang, naive, "limit " + doubt + " 9 0", "limit " + doubt + " 9 1", "limit " + doubt + " -9 1");
+            }
+        }
+    }
+
     private static void leastAndGreatest() {
         Check.says(0, "LEAN of a year: between the least and the greatest that LINES that go through have there,");
         ChimneyGang gang = read(2, 10, 100, 20, 110);
@@ -238,6 +260,9 @@ public final class PlumbTest {
         ChimneyGang thirds = read(0, 0, -5, 3, -4);
         Check.due("the greatest cut up below 0", thirds.limit(0, 0, 0), 13);
         Check.due("the least cut down below 0", thirds.limit(0, 0, 1), 15);
+        ChimneyGang ten = read(0, 0, 0, 1, 0, 0, 0, 1, 0, 0, 0, 1, 0, 0, 0, 1, 0, 0, 0, 1, 0);
+        ten.plumb(1, 300, 0);
+        Check.due("another chimney's year is not its own", ten.limit(0, 0, 0), 1);
         ChimneyGang late = read(0, 300, 5, 0, 5);
         Check.due("from year 300 on", late.limit(0, 5, 1), 300);
         Check.due("never", late.limit(0, 6, 0), -1);

@@ -18,6 +18,7 @@ public final class TrialTest {
         bitsInAll();
         leastRest();
         leastQuestion();
+        questionsTriedOut();
         rod();
         rodNot();
         wall();
@@ -221,6 +222,35 @@ public final class TrialTest {
             gang.tell(course, 0, 0);
         }
         nextIs(gang, 12, -1, 1);
+    }
+
+    private static void questionsTriedOut() {
+        Check.says(0, "NEXT: the question of least REST, of like ones the least: i, then j (of a WALL the course).");
+        ChimneyGang gang = new ChimneyGang();
+        gang.rod(4, 1, 2);
+        gang.tell(0, 2, 3);
+        // parts 1 to 3 are open by themselves: 1 3 3 1; all questions from 0 on leave 4 at least
+        nextIs(gang, 1, 4, 3);
+        for (int row = 0; row < 10 * 10 * 32; row++) {
+            ChimneyGang one = new ChimneyGang();
+            NaiveGang naive = new NaiveGang();
+            int bits = row % 32;
+            boolean wall = bits % 2 == 1 && bits % 3 == 0;
+            Check.alike(one, naive, wall ? "wall 5" : "rod 5 4 1");
+            tellBoth(one, naive, wall, row / 32 % 10, bits);
+            tellBoth(one, naive, wall, row / 320, bits);
+            Check.alike(one, naive, "sure 0", "sure 1", "sure 2", "next 0", "next 1", "next 2");
+        }
+    }
+
+    /** One of ten questions, answered as it is of those bits. */
+    private static void tellBoth(ChimneyGang one, NaiveGang naive, boolean wall, int question, int bits) {
+        int[][] clamps = {{0, 2}, {0, 3}, {1, 3}, {1, 4}, {2, 4}, {2, 5}, {3, 5}, {0, 5}, {4, 5}, {1, 2}};
+        int i = clamps[question][0];
+        int j = clamps[question][1];
+        int bad = Integer.bitCount(bits >> i & (1 << j - i) - 1);
+        int dull = (bits & 7 << i >> 1) != 0 ? 1 : 0;
+        Check.alike(one, naive, "tell " + i + " " + j + " " + (wall ? dull : bad + 4 * (j - i - bad)));
     }
 
     private static void rod() {

@@ -17,6 +17,20 @@ public final class YardTest {
         "life 0", "up 11 1", "back", "back", "climbs 0", "climb 0 0 0 0", "climb 0 0 0 0", "climbs 4", "restore",
         "life 0", "life 1", "climbs 0", "count 7", "up 11 1", "back", "plan", "odds 0"};
 
+    private static final String[] YARDS = {
+        "chimney 30;chimney 50;chimney 4;winds 1 2;road 0 1 moves 5;nest 0 from 1 till 9;"
+            + "letter 0 days 1 wind 5 from 0 till 29 price 1;letter 1 days 1 wind 5 from 0 till 29 price 1;",
+        "chimney 3;chimney 200;winds 0 0 0 0 0 0 0 0 0 0 0 0;letter 0 days 2 wind 5 from 4 till 29 price 0;",
+        "chimney 5;x",
+        "chimney 8;chimney 9;winds 6 6 6 6 6 6;letter 0 days 1 wind 5 from 0 till 29 price 1;nest 1 from 5 till 6;winds 13;"};
+    /** What is of a yard alone. */
+    private static final String[] USE = {"count 0", "count 1", "count 2", "count 3", "road 0 1", "road 0 2", "letter 0 1",
+        "letter 1 0", "begins 0 0", "begins 0 2", "begins 0 8", "begins 1 0", "planned -1 0", "gang 0", "plan", "planned -1 0",
+        "planned -1 1", "planned 0 0", "planned 0 1", "gang 0", "even 2", "gang 0", "gang 1", "out 200 3", "out 2 60",
+        "out 60 3", "order 3", "ordered 1", "risk 0 5 6", "risk 1 7 8", "order 3", "ordered 0", "doubt 0 2", "plumb 0 0 7",
+        "plumb 0 1 8", "limit 0 0 0", "plumb 0 300 300", "plumb 0 299 300", "plumb 1 300 9", "lean 0 7 1", "mortar 0 3",
+        "band 0 0 5 9 1", "band 0 2 5 9 1", "band 0 2 5 9 1", "weak 0 6 9 2", "bands 0 6 9 7", "lasts 1 0 1", "climb 0 0 0 0"};
+
     private YardTest() {
     }
 
@@ -32,6 +46,7 @@ public final class YardTest {
         bytesInOrder();
         tapeFull();
         firstBytes();
+        yardBehindYard();
         faultLeavesAll();
         goneWithAYard();
         asAtFirst();
@@ -142,6 +157,27 @@ public final class YardTest {
         Check.feed(gang, "chimney 7; road 0 0");
         Check.due("all of them", gang.yard(20), 5);
         Check.due("a fault empties the tape too", gang.count(5), 0);
+    }
+
+    /** Each yard as if it were the first, whatever was told, asked and found faulty ahead of it. */
+    private static void yardBehindYard() {
+        Check.says(3, "The tape's first n bytes (it is empty then) tell a YARD: 0,");
+        for (int row = 0; row < YARDS.length * YARDS.length * YARDS.length; row++) {
+            ChimneyGang gang = new ChimneyGang();
+            for (int left = row, many = 0; many < 3; many++, left /= YARDS.length) {
+                Check.yard(gang, YARDS[left % YARDS.length]);
+                for (String call : USE) {
+                    Check.answer(gang, call);
+                }
+            }
+            for (String text : YARDS) {
+                ChimneyGang first = new ChimneyGang();
+                if (Check.yard(first, text) == 0) {
+                    Check.due("a yard behind others", Check.yard(gang, text), 0);
+                    Check.alike(gang, first, USE);
+                }
+            }
+        }
     }
 
     /** An object with something of each kind in it. */
