@@ -28,7 +28,7 @@ import javax.tools.ToolProvider;
 
 /**
  * Breaks the class in one place after another and prints each breach that no test of the document's
- * sentences sees. By hand, not in CI: the tests' classes must lie in the folder that the first argument
+ * sentences sees, or that no longer ends. By hand, not in CI: the tests' classes must lie in the folder that the first argument
  * names; two more: the first line of the source to break and the line behind the last.
  */
 public final class Mutants {
@@ -73,9 +73,9 @@ public final class Mutants {
         for (int i = 0; i < mutants.size(); i++) {
             String end = ends.get(i).get();
             counts.merge(end, 1, Integer::sum);
-            if (end.equals("unseen")) {
+            if (end.equals("unseen") || end.equals("too slow")) {
                 Mutant mutant = mutants.get(i);
-                out.println(mutant.line + ": " + mutant.was.strip() + "\n      -> " + mutant.is.strip());
+                out.println(end + " " + mutant.line + ": " + mutant.was.strip() + "\n      -> " + mutant.is.strip());
             }
         }
         out.println(counts);
